@@ -117,6 +117,9 @@ public final class ImagesTest {
         x.set(1, 1, 1);
         Due.is("37 count(2)", x.count(2), 3);
         Due.is("37 count(3)", x.count(3), 109);
+        InkNights y = Due.told("page 9;page 9 sun;page 9;page 9;page 9;page 9;page 9;page 9 sun");
+        Due.is("37 count(2) of eight", y.count(2), 2);
+        Due.is("37 count(3) of eight", y.count(3), 72);
         Due.is("37 count(4)", x.count(4), Due.BEYOND);
         Due.is("37 count(-1)", x.count(-1), Due.BEYOND);
         Due.is("37 status(0)", x.status(0), 2);

@@ -90,6 +90,11 @@ public final class JarTest {
         x.set(0, 2, 0);
         x.set(3, 2, 1);
         Due.is("4 now(6) without 0", x.now(6), 12);
+        x.set(0, 2, 90);
+        x.set(0, 3, 1);
+        x.jar(3, 9);
+        // 90 now, not the 81 of tomorrow; 0, twice 95 and 1 less 0, and 9.
+        Due.is("4 now(7) in the SUN", x.now(7), 90 + 190 + 10);
         x.nights(13);
         Due.is("4 now(0) then", x.now(0), 13);
         Due.is("4 now(1) then", x.now(1), 9);

@@ -208,6 +208,8 @@ public final class PagesTest {
         Due.is("10 of(0, 4)", x.of(0, 4), 1);
         Due.is("10 looks(0) again", x.looks(0), 49);
         Due.is("10 of(1, 4)", x.of(1, 4), 0);
+        x.jar(3, 9);
+        Due.is("10 looks(0) by 9, as it is now", x.looks(0), 88);
         x.set(0, 4, 9998);
         x.looks(0);
         Due.is("10 looks(0) late", x.looks(0), 0);

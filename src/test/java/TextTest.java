@@ -64,8 +64,11 @@ public final class TextTest {
                 Due.is("27 of(" + page + ", " + what + ")", x.of(page, what), pages[page][what]);
             }
         }
-        Due.feed(x, "will 1;verse 00002 sun");
-        Due.is("27 more items", x.text(), 2);
+        Due.feed(x, "will 1;verse 00002 sun;dark 0 0;brothers 0;ink 0");
+        Due.is("27 more items", x.text(), 5);
+        Due.is("27 dark 0 0", x.now(1), 0);
+        Due.is("27 brothers 0", x.now(2), 0);
+        Due.is("27 ink 0", x.now(4), 0);
         Due.is("27 count(0)", x.count(0), 6);
         Due.is("27 of(4, 0)", x.of(4, 0), 4);
         Due.is("27 of(5, 0)", x.of(5, 0), 5);
@@ -100,6 +103,9 @@ public final class TextTest {
         fault("ink 5 sun", 6);
         fault("inks 5", 0);
         fault("inc 5", 0);
+        fault("jnk 5", 0);
+        fault("inkz 5", 0);
+        fault("inka 5", 0);
         fault("Ink 5", 0);
         fault("ink\t5", 3);
         fault("ink\n5", 3);
