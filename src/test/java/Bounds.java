@@ -66,10 +66,14 @@ final class Bounds {
         return x;
     }
 
-    /** Eight PAGES (of 1 WORD, BLACK 10, 20, .. 80, the last in the SUN), THE TAPE has 120 bytes, INK 100. */
+    /**
+     * Eight PAGES (of 1 WORD, BLACK 10, 20, .. 80, the last in the SUN), THE TAPE has 120 bytes, INK 100. SHEETS of 40
+     * numbers, 0 and 1 of 8 bits, 2 and 3 of 64. Something is kept.
+     */
     static InkNights full() {
         InkNights x = new InkNights();
         x.jar(2, 108);
+        x.image();
         for (int page = 0; page < 8; page++) {
             x.scribe(0, 1);
             x.set(page, 2, 10 * page + 10);
@@ -82,9 +86,10 @@ final class Bounds {
         return x;
     }
 
-    /** NIGHT 9999 (place 3, DARK 6), without BROTHERS; two PAGES BLACK 16 and 26, INK 1. */
+    /** NIGHT 9999 (place 3, DARK 6), without BROTHERS; two PAGES BLACK 16 and 26, INK 1; something is kept. */
     static InkNights last() {
-        InkNights x = new InkNights();
+        InkNights x = withoutPages();
+        x.image();
         x.scribe(0, 1);
         x.scribe(1, 1);
         x.jar(0, 0);

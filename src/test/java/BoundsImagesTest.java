@@ -47,12 +47,11 @@ public final class BoundsImagesTest {
 
     private static void promise35NothingIsKept() {
         Bounds.refused("35 a new one", InkNights::new, x -> x.undo(), Due.NONE);
-        Bounds.refused("35 a full one", Bounds::full, x -> x.undo(), Due.NONE);
-        Bounds.refused("35 after tear()", BoundsImagesTest::torn, x -> x.undo(), Due.NONE);
+        Bounds.refused("35 after tear()", () -> torn(Bounds.rich()), x -> x.undo(), Due.NONE);
+        Bounds.refused("35 a full one after tear()", () -> torn(Bounds.full()), x -> x.undo(), Due.NONE);
     }
 
-    private static InkNights torn() {
-        InkNights x = Bounds.rich();
+    private static InkNights torn(InkNights x) {
         x.tear();
         return x;
     }
@@ -94,12 +93,15 @@ public final class BoundsImagesTest {
         x.image();
         for (int page = 0; page < 5; page++) {
             x.scribe(2, 1);
+            x.set(page, 3, 1);
+            x.set(page, 4, 7);
         }
         Due.is("35 to none", x.undo(), 0);
         Due.is("35 the pages are gone", x.of(0, 0), Due.BEYOND);
         Due.is("35 INK is there again", x.now(4), 5);
         Due.is("35 the next is 0 again", x.scribe(0, 99), 0);
         Due.is("35 and isn't READ", x.of(0, 4), 0);
+        Due.is("35 and doesn't lie in the SUN", x.of(0, 3), 0);
         InkNights y = Bounds.full();
         y.image();
         y.set(7, 2, 1);
@@ -141,7 +143,7 @@ public final class BoundsImagesTest {
     private static void promise36Tear() {
         Bounds.changesNothing("36 nothing was", InkNights::new, x -> x.tear(), 0);
         Bounds.taken("36 something was", Bounds::rich, x -> x.tear(), 1);
-        Bounds.changesNothing("36 once more", BoundsImagesTest::torn, x -> x.tear(), 0);
+        Bounds.changesNothing("36 once more", () -> torn(Bounds.rich()), x -> x.tear(), 0);
         InkNights x = Bounds.rich();
         x.image();
         x.image();

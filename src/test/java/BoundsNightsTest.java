@@ -10,6 +10,7 @@ public final class BoundsNightsTest {
         promise12EachWhole9();
         promise12InkIs999AtMost();
         promise12BlackIs0AtLeast();
+        promise12NoPagesAndEight();
         promise12OneByOneAsAtOnce();
         promise13NightsAre0To200();
         promise13InkIsHeld();
@@ -144,6 +145,21 @@ public final class BoundsNightsTest {
         y.set(3, 2, 99);
         y.nights(100);
         Due.is("12 one that FADES by 2500", y.of(3, 2), 0);
+    }
+
+    private static void promise12NoPagesAndEight() {
+        InkNights x = Bounds.full();
+        x.set(0, 3, 1);
+        // Three BROTHERS, DARK 4 and 9: 39 BUCKETS.
+        Due.is("12 with eight", x.nights(2), 104);
+        int[] left = {0, 20, 30, 40, 50, 60, 70, 62};
+        for (int page = 0; page < left.length; page++) {
+            Due.is("12 with eight, page " + page, x.of(page, 2), left[page]);
+        }
+        Due.is("12 with eight, NIGHT", x.now(0), 2);
+        InkNights y = new InkNights();
+        Due.is("12 with none", y.nights(2), 9);
+        Due.is("12 with none, count(0)", y.count(0), 0);
     }
 
     private static void promise12OneByOneAsAtOnce() {

@@ -261,6 +261,9 @@ public final class BoundsTextTest {
         Due.is("27 sun of the second alone", x.of(5, 3), 0);
         Due.is("27 sun of the second alone", x.of(6, 3), 1);
         Due.is("27 sun of the second alone", x.of(7, 3), 0);
+        fault("page 7 zun", 7);
+        fault("page 7 sux", 7);
+        fault("page 7 sunz", 7);
         fault("page 7 sun sun", 11);
         fault("page 7 sun 7", 11);
         fault("page sun 7", 5);
@@ -319,9 +322,14 @@ public final class BoundsTextTest {
         fault("lamps 9", 0);
     }
 
-    // A name without its first or last letter, or with one more, is another WORD.
+    // A name without its first or last letter, with one more, or with one other, is another WORD.
     private static void promise27Names() {
         for (String name : "page deed letter treaty will verse ink dark brothers lamp".split(" ")) {
+            for (int i = 0; i < name.length(); i++) {
+                fault(name.substring(0, i) + "z" + name.substring(i + 1) + " 1", 0);
+            }
+            fault(name + "z 1", 0);
+            fault("z" + name + " 1", 0);
             fault(name.substring(1) + " 1", 0);
             fault(name.substring(0, name.length() - 1) + " 1", 0);
             fault(name + "a 1", 0);
