@@ -203,7 +203,7 @@ final class Bounds {
         }
     }
 
-    // Copies of nothing tell which sheets are MISSING or of as many bits; no number of the states here is -1000000001.
+    // Copies of nothing tell which sheets are MISSING; no number of the states here is -1000000001.
     private static void addSheets(List<Long> seen, InkNights x) {
         for (int s = 0; s < 4; s++) {
             for (int t = 0; t <= s; t++) {
@@ -215,6 +215,17 @@ final class Bounds {
                 seen.add(was);
             }
             seen.add(x.write(s, 0, 0));
+        }
+        addBits(seen, x);
+    }
+
+    // A sheet of no numbers shows its bits only beside one of as many.
+    private static void addBits(List<Long> seen, InkNights x) {
+        for (int bits : new int[] {8, 16, 64}) {
+            x.sheet(3, bits, 0);
+            for (int s = 0; s < 3; s++) {
+                seen.add((long) x.copy(s, 0, 3, 0, 0));
+            }
         }
     }
 }
